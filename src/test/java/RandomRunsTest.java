@@ -31,10 +31,26 @@ public final class RandomRunsTest {
         long seed = random.nextBoolean() ? random.nextInt(5) : random.nextLong();
         FeederOrders real = new FeederOrders(seed, look.slots);
         PlainModel model = new PlainModel(seed, look.slots);
+        if (run % 8 == 0) {
+            fill(run, random, look, real, model);
+        }
         for (int i = 0; i < look.calls; i++) {
             // Early calls mostly build, later ones mostly ask.
             int what = i < 45 && random.nextInt(5) > 0 ? random.nextInt(7) : random.nextInt(22);
             oneCall(run, what, random, look, real, model);
+        }
+    }
+
+    /** As many kinds, parts and machines as there can be. */
+    private static void fill(int run, Random random, Look look, FeederOrders real, PlainModel model) {
+        for (int i = 0; i < 11; i++) {
+            oneCall(run, 0, random, look, real, model);
+        }
+        for (int i = 0; i < 41; i++) {
+            oneCall(run, 2, random, look, real, model);
+        }
+        for (int i = 0; i < 4; i++) {
+            oneCall(run, 1, random, look, real, model);
         }
     }
 

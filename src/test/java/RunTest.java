@@ -12,6 +12,7 @@ public final class RunTest {
         orderByHeightAndPlace();
         leastWay();
         lowestNumbersOfEqualWays();
+        fullTrips();
         trips();
         questionsBeforeARun();
         whatIsToldAfterARunWaits();
@@ -205,6 +206,38 @@ public final class RunTest {
         dueOrder(y, "8: in one place", 0, 0, 1, 2, 3, 4, 5);
     }
 
+    /** Forty parts in two columns, six a trip: every trip, the last one too, is put in its own order. */
+    private static void fullTrips() {
+        FeederOrders x = new FeederOrders(1L, 40);
+        for (int k = 0; k < 10; k++) {
+            x.kind(4, k % 8);
+        }
+        x.machine(255, 6);
+        for (int p = 0; p < 40; p++) {
+            x.part(p % 10, p % 2 == 0 ? 0 : 1000, 100 * (6 - p % 6), p / 6);
+        }
+        x.run(1, 0);
+        for (int trip = 0; trip < 6; trip++) {
+            int first = 6 * trip;
+            int[] places = {1, 3, 5, 0, 2, 4};
+            for (int i = 0; i < 6; i++) {
+                due.is("8: full trip " + trip + ", " + i, x.order(0, first + i), first + places[i]);
+                due.is("9: full trip " + trip + ", " + i, x.trip(0, first + i), trip);
+            }
+        }
+        int[] lastTrip = {37, 39, 36, 38};
+        for (int i = 0; i < 4; i++) {
+            due.is("8: the last trip, " + i, x.order(0, 36 + i), lastTrip[i]);
+            due.is("9: the last trip, " + i, x.trip(0, lastTrip[i]), 6);
+        }
+        due.is("8: no more", x.order(0, 40), FeederOrders.NONE);
+        for (int k = 0; k < 10; k++) {
+            due.is("7: all slots taken", x.slot(0, k), 4 * k);
+        }
+        due.is("11: eight nozzles", x.bound(), 80 + 140);
+        due.is("17: all kinds", x.common(0, 0), true);
+    }
+
     private static void trips() {
         FeederOrders x = new FeederOrders(1L, 5);
         x.kind(1, 0);
@@ -334,6 +367,16 @@ public final class RunTest {
         due.is("17: kind 1 on 1, which 2 has not", x.common(1, 2), false);
         due.is("17: the other way round", x.common(2, 1), false);
         due.is("17: itself", x.common(1, 1), true);
+        FeederOrders y = new FeederOrders(1L, 5);
+        y.kind(1, 0);
+        y.machine(1, 1);
+        y.machine(2, 1);
+        y.machine(0, 1);
+        addParts(y, 0, 1);
+        y.run(3, 0);
+        due.is("17: kind 0 that 1 has not", y.common(0, 1), false);
+        due.is("17: kind 0 that 1 has not, the other way round", y.common(1, 0), false);
+        due.is("17: no feeders", y.common(1, 2), true);
         due.outOfBounds("17: 3", () -> x.common(3, 0));
         due.outOfBounds("17: b 3", () -> x.common(0, 3));
         due.outOfBounds("17: -1", () -> x.common(-1, 0));

@@ -10,6 +10,8 @@ public final class TimeTest {
         wrongSteps();
         exchangesByHand();
         exchangesGoOn();
+        exchangesOfOneHeightAlone();
+        exchangesBetweenTrips();
         noDrawsWithoutMachines();
         oneDrawForALonePart();
         due.end();
@@ -188,6 +190,39 @@ public final class TimeTest {
             due.is("6: seed " + seed + ", a run with exchanges", x.run(1, 2), 8 + 20 * changesOf(row));
             dueRow("6: seed " + seed + ", a run with exchanges", x, row);
         }
+    }
+
+    /** Each nozzle's two parts would come together, but the heights keep them apart. */
+    private static void exchangesOfOneHeightAlone() {
+        for (long seed = -20; seed < 20; seed++) {
+            FeederOrders x = new FeederOrders(seed, 5);
+            x.kind(1, 0);
+            x.kind(1, 1);
+            x.machine(3, 1);
+            for (int i = 0; i < 4; i++) {
+                x.part(i % 2, 0, 0, i);
+            }
+            due.is("16: heights", x.run(1, 100), 8 + 60);
+            due.is("16: heights", x.improve(100), 0);
+            dueRow("16: heights", x, new int[] {0, 1, 2, 3});
+        }
+    }
+
+    /** By x the trips are 0, 1 and 2, 3; with 0, 2 and 1, 3 the ways are shorter. */
+    private static void exchangesBetweenTrips() {
+        FeederOrders x = new FeederOrders(3L, 5);
+        x.kind(1, 0);
+        x.machine(1, 2);
+        x.part(0, 0, 100, 0);
+        x.part(0, 10, 0, 0);
+        x.part(0, 20, 100, 0);
+        x.part(0, 30, 0, 0);
+        due.is("6: by x", x.run(1, 0), 100 + 100 + 10 + 100 + 100 + 30 + 8);
+        due.is("16: kept", x.improve(200) > 0, true);
+        due.is("16: together", x.trip(0, 0), x.trip(0, 2));
+        due.is("16: together", x.trip(0, 1), x.trip(0, 3));
+        due.is("6: a run begins by x again", x.run(1, 0), 448);
+        due.is("6: and improves", x.run(1, 200), 100 + 20 + 100 + 10 + 20 + 30 + 8);
     }
 
     private static void noDrawsWithoutMachines() {
