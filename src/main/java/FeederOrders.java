@@ -13,10 +13,10 @@ public final class FeederOrders {
     private static final int MOST_NOZZLE = 7;
     private static final int ALL_NOZZLES = 255;
     private static final int MOST_CARRIED = 6;
-    private static final int MOST_PLACE = 100_000;
-    private static final int MOST_HEIGHT = 10_000;
+    private static final int MOST_PLACE = 100000;
+    private static final int MOST_HEIGHT = 10000;
     private static final int MOST_STEPS = 200;
-    private static final int MOST_BELOW = 1_000;
+    private static final int MOST_BELOW = 1000;
 
     private static final int PICK_TIME = 2;
     private static final int CHANGE_TIME = 20;
@@ -270,7 +270,7 @@ public final class FeederOrders {
             }
         }
         for (int trip = 0; trip < machine.tripCount(); trip++) {
-            arrangeTrip(machine, trip);
+            tripPlan.arrange(parts, machine, trip);
         }
         machine.moveTime = moveTime(machine);
     }
@@ -300,11 +300,6 @@ public final class FeederOrders {
         return NONE;
     }
 
-    private void arrangeTrip(Machine machine, int trip) {
-        int from = trip * machine.carried;
-        tripPlan.arrange(parts, machine.row, from, Math.min(machine.size, from + machine.carried));
-    }
-
     private int exchangeParts(int steps) {
         int kept = 0;
         // Without a machine there is nothing to draw from, so s stays as it is.
@@ -329,8 +324,8 @@ public final class FeederOrders {
         System.arraycopy(machine.row, 0, spareRow, 0, machine.size);
         machine.row[a] = spareRow[b];
         machine.row[b] = spareRow[a];
-        arrangeTrip(machine, machine.tripAt(a));
-        arrangeTrip(machine, machine.tripAt(b));
+        tripPlan.arrange(parts, machine, machine.tripAt(a));
+        tripPlan.arrange(parts, machine, machine.tripAt(b));
         int time = moveTime(machine);
         if (time < machine.moveTime) {
             machine.moveTime = time;
@@ -603,13 +598,12 @@ public final class FeederOrders {
         }
 
         void settle() {
-            int limit = (total + MOST_MACHINES - 1) / MOST_MACHINES;
-            while (limit < total && !canKeepTo(limit)) {
-                limit++;
-            }
-            // The last limit holds for every way, but its endings must be there to choose from.
-            if (limit < total || canKeepTo(total)) {
-                chooseHomes();
+            int evenLoad = (total + MOST_MACHINES - 1) / MOST_MACHINES;
+            for (int limit = evenLoad; limit <= total; limit++) {
+                if (canKeepTo(limit)) {
+                    chooseHomes();
+                    return;
+                }
             }
         }
 
@@ -688,17 +682,19 @@ public final class FeederOrders {
         private final int[][] wayLeft = new int[1 << MOST_CARRIED][MOST_CARRIED + 1];
         private int size = 0;
 
-        void arrange(Parts parts, int[] row, int from, int to) {
-            if (from < 0 || to > row.length || to - from > MOST_CARRIED) {
+        void arrange(Parts parts, Machine machine, int trip) {
+            int from = trip * machine.carried;
+            int to = Math.min(machine.size, from + machine.carried);
+            if (from < 0 || to - from > MOST_CARRIED) {
                 return;
             }
             size = 0;
             for (int i = from; i < to; i++) {
-                takeIn(row[i]);
+                takeIn(machine.row[i]);
             }
             measure(parts);
             weigh();
-            layOut(row, from);
+            layOut(machine.row, from);
         }
 
         /** The pool stands by number, so that of equal ways the first one found is the one that is due. */
@@ -726,11 +722,13 @@ public final class FeederOrders {
             }
         }
 
+        /** From all parts placed back to one: what a set leaves to go is asked of sets with one part more. */
         private void weigh() {
             for (int placed = (1 << size) - 1; placed > 0; placed--) {
+                int followers = followersOf(placed);
                 for (int last = 0; last < size; last++) {
                     if ((placed >> last & 1) == 1) {
-                        int next = bestNext(placed, last);
+                        int next = bestNext(placed, followers, last);
                         wayLeft[placed][last] = next == NONE ? ways[last][HOME] : wayOver(placed, last, next);
                     }
                 }
@@ -741,7 +739,7 @@ public final class FeederOrders {
             int placed = 0;
             int last = HOME;
             for (int i = 0; i < size; i++) {
-                int next = bestNext(placed, last);
+                int next = bestNext(placed, followersOf(placed), last);
                 if (next == NONE) {
                     return;
                 }
@@ -751,11 +749,22 @@ public final class FeederOrders {
             }
         }
 
-        private int bestNext(int placed, int last) {
+        /** The bits of the parts that may be placed next: heights never fall. */
+        private int followersOf(int placed) {
+            int followers = 0;
+            for (int next = 0; next < size; next++) {
+                if ((placed >> next & 1) == 0 && (lowerOnes[next] & ~placed) == 0) {
+                    followers |= 1 << next;
+                }
+            }
+            return followers;
+        }
+
+        private int bestNext(int placed, int followers, int last) {
             int best = NONE;
             int least = 0;
             for (int next = 0; next < size; next++) {
-                if (mayFollow(placed, next)) {
+                if ((followers >> next & 1) == 1) {
                     int way = wayOver(placed, last, next);
                     if (best == NONE || way < least) {
                         best = next;
@@ -764,10 +773,6 @@ public final class FeederOrders {
                 }
             }
             return best;
-        }
-
-        private boolean mayFollow(int placed, int next) {
-            return (placed >> next & 1) == 0 && (lowerOnes[next] & ~placed) == 0;
         }
 
         private int wayOver(int placed, int last, int next) {
