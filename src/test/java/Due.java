@@ -3,6 +3,12 @@ final class Due {
     private static final int MOST_PRINTED = 40;
 
     private int wrong = 0;
+    private String heading = "";
+
+    /** What the answers that follow stand for, up to the next heading. */
+    void about(String text) {
+        heading = text;
+    }
 
     void is(String call, long got, long want) {
         if (got != want) {
@@ -46,7 +52,7 @@ final class Due {
     void tell(String text) {
         wrong++;
         if (wrong <= MOST_PRINTED) {
-            System.out.println(text);
+            System.out.println(heading + text);
         }
     }
 

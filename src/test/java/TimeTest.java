@@ -101,20 +101,6 @@ public final class TimeTest {
         due.is("16: 0 steps", x.improve(0), 0);
     }
 
-    /** The draws as the document tells them. */
-    private static final class Drawn {
-        private long s;
-
-        Drawn(long seed) {
-            s = seed;
-        }
-
-        int mod(int count) {
-            s = s * 6364136223846793005L + 1442695040888963407L;
-            return (int) ((s >>> 33) % count);
-        }
-    }
-
     /** Nozzles 0, 1, 0, 1, one part a trip; parts stand in one place, so that changes alone count. */
     private static FeederOrders mixed(long seed) {
         FeederOrders x = new FeederOrders(seed, 5);
