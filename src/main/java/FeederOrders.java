@@ -679,7 +679,7 @@ public final class FeederOrders {
         private final int[] lowerOnes = new int[MOST_CARRIED];
         private final int[][] ways = new int[MOST_CARRIED + 1][MOST_CARRIED + 1];
         /** The least way still to go when the parts of these bits are placed, this one last. */
-        private final int[][] wayLeft = new int[1 << MOST_CARRIED][MOST_CARRIED + 1];
+        private final int[][] wayLeft = new int[1 << MOST_CARRIED][MOST_CARRIED];
         private int size = 0;
 
         void arrange(Parts parts, Machine machine, int trip) {

@@ -59,6 +59,26 @@ final class Lines {
         return row.toString();
     }
 
+    /**
+     * As many kinds, parts and machines as there can be, after a run of all: part p is of kind p mod 10, and kind k
+     * needs nozzle k mod 8, of which no machine has the last one. So kinds 0, 1, 2 go to machine 0, kinds 3, 4, 5 to
+     * machine 1, kinds 6, 8, 9 to machine 2, twelve parts each, and kind 7 to none.
+     */
+    static FeederOrders full() {
+        FeederOrders x = new FeederOrders(1L, 120);
+        for (int k = 0; k < 10; k++) {
+            x.kind(4, k % 8);
+        }
+        for (int m = 0; m < 3; m++) {
+            x.machine(127, 6);
+        }
+        for (int p = 0; p < 40; p++) {
+            x.part(p % 10, 0, 0, p);
+        }
+        x.run(3, 0);
+        return x;
+    }
+
     /** Three kinds, seven parts and two of the three machines, after a run: something is there to be disturbed. */
     static FeederOrders settled() {
         FeederOrders x = new FeederOrders(77L, 6);

@@ -180,6 +180,10 @@ final class RunEdges {
         due.is("after the next run", Lines.slots(x, 0, 2), "9 0");
         x.run(0, 0);
         due.is("after a run of no machine", Lines.slots(x, 0, 2), "-1 -1");
+        FeederOrders full = Lines.full();
+        due.is("ten kinds, the first machine", Lines.slots(full, 0, 10), "0 4 8 -1 -1 -1 -1 -1 -1 -1");
+        due.is("ten kinds, the second machine", Lines.slots(full, 1, 10), "-1 -1 -1 0 4 8 -1 -1 -1 -1");
+        due.is("ten kinds, the third machine", Lines.slots(full, 2, 10), "-1 -1 -1 -1 -1 -1 0 -1 4 8");
     }
 
     private static void slotNotThere(Due due) {
@@ -231,6 +235,9 @@ final class RunEdges {
         Lines.addParts(one, 0, 1);
         one.run(1, 0);
         due.is("the only one", one.order(0, 0), 0);
+        FeederOrders full = Lines.full();
+        due.is("the first machine of three", Lines.order(full, 0), "0 1 2 10 11 12 20 21 22 30 31 32");
+        due.is("the last machine of three", Lines.order(full, 2), "6 8 9 16 18 19 26 28 29 36 38 39");
     }
 
     private static void orderBeyond(Due due) {
@@ -329,6 +336,14 @@ final class RunEdges {
         due.is("two trips on the last machine", y.proved(), false);
         y.run(1, 0);
         due.is("which the latest run does not use", y.proved(), true);
+        FeederOrders z = new FeederOrders(1L, 10);
+        for (int m = 0; m < 3; m++) {
+            z.machine(1, 6);
+        }
+        Lines.addKinds(z, 6, 6, 6);
+        z.run(3, 0);
+        due.is("three machines with a full trip each", z.proved(), true);
+        due.is("three machines with two trips each", Lines.full().proved(), false);
     }
 
     private static void provedWithout(Due due) {
@@ -358,6 +373,12 @@ final class RunEdges {
         due.is("a machine that is not used", x.bound(), 6);
         x.run(0, 0);
         due.is("a run of no machine", x.bound(), 0);
+        FeederOrders full = Lines.full();
+        due.is("three machines alike", full.bound(), 24 + 40);
+        full.refill(9, 1);
+        due.is("the last kind's refills on the last machine", full.bound(), 24 + 40 + 150);
+        full.reject(7, 999, 1000);
+        due.is("rejects of a kind that is on none", full.bound(), 24 + 40 + 150);
     }
 
     private static void boundOfSupply(Due due) {
@@ -410,6 +431,9 @@ final class RunEdges {
         all.run(1, 0);
         due.is("the first of forty ahead of the last", all.lower(0, 39), true);
         due.is("the last of forty ahead of the first", all.lower(39, 0), false);
+        FeederOrders full = Lines.full();
+        due.is("the first machine ahead of the last", full.lower(32, 6), true);
+        due.is("the last machine ahead of the second", full.lower(6, 33), false);
     }
 
     private static void lowerNotPlaced(Due due) {
@@ -425,6 +449,8 @@ final class RunEdges {
         due.is("neither is", x.lower(2, 3) || x.lower(3, 2) || x.lower(2, 2), false);
         x.run(0, 0);
         due.is("after a run of no machine", x.lower(0, 1) || x.lower(1, 0), false);
+        FeederOrders full = Lines.full();
+        due.is("on none of three machines", full.lower(7, 39) || full.lower(0, 7) || full.lower(7, 37), false);
     }
 
     private static void lowerOfNone(Due due) {
@@ -453,6 +479,7 @@ final class RunEdges {
         Lines.addParts(x, 0, 37);
         x.run(3, 0);
         due.is("the last of forty parts", x.machineOf(39), 2);
+        due.is("ten kinds", Lines.machinesOf(Lines.full(), 10), "0 0 0 1 1 1 2 -1 2 2");
     }
 
     private static void machineOfNotPlaced(Due due) {
@@ -469,6 +496,7 @@ final class RunEdges {
         due.is("its machine is not used", Lines.machinesOf(x, 4), "0 -1 -1 0");
         x.run(0, 0);
         due.is("no machine is used", Lines.machinesOf(x, 4), "-1 -1 -1 -1");
+        due.is("on none of three machines", Lines.full().machineOf(37), NONE);
     }
 
     private static void machineOfNone(Due due) {
@@ -487,6 +515,10 @@ final class RunEdges {
             FeederOrders x = mixed(seed);
             NozzleRow row = mixedRow();
             Drawn drawn = new Drawn(seed);
+            // Without a machine nothing is drawn, so that s is the seed still.
+            x.improve(7);
+            x.run(0, 7);
+            x.improve(7);
             x.run(1, 2);
             exchange(row, drawn, 2);
             for (int steps : new int[] {0, 1, 0, 2, 3, 200}) {
@@ -548,6 +580,8 @@ final class RunEdges {
         due.is("nozzle 0 on the first alone", x.common(0, 2), true);
         x.run(0, 0);
         due.is("after a run of no machine", x.common(0, 1) && x.common(1, 2), true);
+        FeederOrders full = Lines.full();
+        due.is("ten kinds and three machines", full.common(0, 1) && full.common(1, 2) && full.common(2, 2), true);
     }
 
     private static void commonOfNone(Due due) {

@@ -422,6 +422,28 @@ final class TermsEdges {
         FeederOrders alone = Lines.oneMachine(1L, 3, 0);
         alone.part(0, 5, 9, 3);
         due.is("a trip of one", alone.run(1, 0), 18 + 2);
+        FeederOrders middle = Lines.oneMachine(1L, 3, 0);
+        middle.part(0, 20, 0, 0);
+        middle.part(0, 10, 0, 0);
+        middle.part(0, 0, 20, 0);
+        due.is("the lowest number in the middle", middle.run(1, 0), 60 + 6);
+        due.is("the lowest number in the middle", Lines.order(middle, 0), "1 0 2");
+        dented.part(0, 10, 0, 2);
+        dented.part(0, 20, 0, 2);
+        dented.part(0, 0, 20, 2);
+        due.is("heights of one trip bind no other one", dented.run(1, 0), 70 + 60 + 12);
+        due.is("heights of one trip bind no other one", Lines.order(dented, 0), "1 0 2 3 4 5");
+        leastWayOfFullTrips(due);
+    }
+
+    /** Two columns: up the far one and down the near one; each trip of one height. */
+    private static void leastWayOfFullTrips(Due due) {
+        FeederOrders x = Lines.oneMachine(1L, 6, 0);
+        for (int p = 0; p < 14; p++) {
+            x.part(0, p % 2 == 0 ? 0 : 1000, 100 * (6 - p % 6), p / 6);
+        }
+        due.is("two full trips, and one of two", x.run(1, 0), 3000 + 3000 + 2600 + 28);
+        due.is("two full trips, and one of two", Lines.order(x, 0), "1 3 5 0 2 4 7 9 11 6 8 10 12 13");
     }
 
     private static void equalWays(Due due) {
@@ -600,6 +622,14 @@ final class TermsEdges {
         addMixed(none, new NozzleRow(), 0, 0, 0, 0);
         due.is("none used", none.run(0, 200), 0);
         due.is("none used", none.improve(200), 0);
+        NozzleRow row = new NozzleRow();
+        FeederOrders later = Lines.oneMachine(4L, 1, 0, 1);
+        addMixed(later, row, 0, 0, 0, 0);
+        later.improve(1);
+        later.run(0, 1);
+        later.improve(1);
+        later.run(1, 0);
+        dueExchanges(due, "none used before, so none drawn", later, row, new Drawn(4L), 20);
     }
 
     /** The last machine used has all the parts, so that the others, when they are drawn, draw none. */
