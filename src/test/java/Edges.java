@@ -63,7 +63,7 @@ final class Edges {
     }
 
     private static boolean isToBeWhole(String section) {
-        return section.equals("Terms") || section.startsWith("Promise");
+        return section.equals("What it is") || section.equals("Terms") || section.startsWith("Promise");
     }
 
     private static String section(String heading) {

@@ -5,8 +5,11 @@ final class TermsEdges {
     private TermsEdges() { }
 
     static void tell(Edges edges) {
-        edges.sentence("What it is", "An object is used for at most 512 calls after it has been made",
-                TermsEdges::dearestCalls);
+        edges.sentence("What it is", "Machines that place parts: kinds shared over machines as evenly as can be, their"
+                + " feeders in slots, parts in order of heights in trips of least way, seeded exchanges; nozzle"
+                + " changes, refills, rejects, times and a bound.", TermsEdges::wholeLine);
+        edges.sentence("What it is", "An object is used for at most 512 calls after it has been made; what later calls"
+                + " answer is free.", TermsEdges::dearestCalls);
         edges.sentence("Terms, SLOTS",
                 "A machine has SLOTS 0 .. slots - 1; slots are 1 .. 120 (what is told below is 1, above 120).",
                 TermsEdges::slots);
@@ -86,6 +89,39 @@ final class TermsEdges {
     }
 
     /** The 512 dearest calls: forty parts of one height, six a trip, 200 exchanges each time. */
+    /** Worked out by hand: on each machine one exchange is kept, and no other can be, whatever the seed. */
+    private static void wholeLine(Due due) {
+        for (long seed = 1; seed < 6; seed++) {
+            FeederOrders x = new FeederOrders(seed, 9);
+            x.kind(2, 0);
+            x.kind(1, 1);
+            x.kind(3, 0);
+            x.machine(3, 2);
+            x.machine(3, 2);
+            x.part(0, 0, 100, 4);
+            x.part(0, 50, 0, 4);
+            x.part(0, 60, 100, 4);
+            x.part(1, 5, 5, 1);
+            x.part(1, 20, 0, 0);
+            x.part(2, 0, 7, 1);
+            x.fixed(1, 2);
+            x.reject(0, 1, 4);
+            x.refill(0, 2);
+            due.is("ways 250 and 200, 3 parts, 1 reject, 1 refill", x.run(2, 0), 450 + 6 + 2 + 50);
+            due.is("slots of machine 0", Lines.slots(x, 0, 3), "0 -1 -1");
+            due.is("slots of machine 1", Lines.slots(x, 1, 3), "-1 2 3");
+            due.is("order of machine 0", Lines.order(x, 0), "0 1 2");
+            due.is("order of machine 1", Lines.order(x, 1), "4 5 3");
+            due.is("changes of machine 1", x.changes(1), 2);
+            due.is("kept", x.improve(200), 2);
+            due.is("order of machine 0 then", Lines.order(x, 0), "0 2 1");
+            due.is("order of machine 1 then", Lines.order(x, 1), "4 3 5");
+            due.is("changes of machine 1 then", x.changes(1), 1);
+            due.is("bound", x.bound(), 6 + 2 + 50);
+            due.is("ways 260 and 100", x.run(2, 200), 360 + 6 + 2 + 50);
+        }
+    }
+
     private static void dearestCalls(Due due) {
         FeederOrders x = Lines.oneMachine(5L, 6, 0, 1);
         for (int p = 0; p < 40; p++) {
